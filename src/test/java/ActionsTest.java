@@ -367,6 +367,15 @@ public final class ActionsTest {
         due.is("turns", 3, p.householdOf(0, 3));
         due.isText("minutes", "d0 law0,d0 law1", Checks.minutes(p));
         due.is("the changes", 6, p.account(14));
+        PumpParliament middle = Checks.pumpOf(new int[][] {{1, 0, 0}, {3, 5, 9}, {2, 10, 9}});
+        due.is("1 member for 2, 5 for 1", 1, middle.vote());
+        PumpParliament three = Checks.pumpOf(new int[][] {{7, 0, 9}, {4, 5, 9}, {4, 6, 9}, {2, 10, 0}});
+        due.is("7 members for 0, 8 for 1, 2 for 2", 1, three.vote());
+        int[][] eight = {{9, 0, 0}, {9, 3, 0}, {9, 6, 0}, {9, 9, 0}, {9, 12, 0}, {9, 15, 0}, {9, 18, 0}, {9, 19, 0}};
+        PumpParliament full = Checks.pumpOf(eight);
+        Checks.say(full, "j7;j6;j5;j4;j3;j2;j1;j0");
+        due.is("vote with all in the queue", 0, full.vote());
+        due.is("all wait", 8, full.account(2));
         leavingBehindAVote();
     }
 
@@ -449,6 +458,9 @@ public final class ActionsTest {
         due.is("drought", 1, q.account(12));
         due.is("half of 5 turns", 3, q.householdOf(0, 3));
         due.is("half of 1 turn", 1, q.householdOf(2, 3));
+        due.is("one with 4 turns", 3, q.household(8, 19, 0));
+        due.is("half of 4 turns", 2, q.householdOf(3, 3));
+        due.is("and they are left", 2, q.householdOf(3, 4));
         due.is("the law's turns stay", 5, q.turnsBy(0, 0));
         due.is("isFor stays", 0, q.isFor(0));
         q.rain(1);

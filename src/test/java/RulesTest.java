@@ -68,7 +68,8 @@ public final class RulesTest {
 
     private static void face() {
         Class<?> main = PumpParliament.class;
-        due.is("public and final", 1, Modifier.isPublic(main.getModifiers()) && Modifier.isFinal(main.getModifiers()) ? 1 : 0);
+        int kind = main.getModifiers();
+        due.is("public and final", 1, Modifier.isPublic(kind) && Modifier.isFinal(kind) ? 1 : 0);
         due.is("constructors", 1, main.getDeclaredConstructors().length);
         for (Constructor<?> c : main.getDeclaredConstructors()) {
             due.is("a public constructor", 1, Modifier.isPublic(c.getModifiers()) ? 1 : 0);

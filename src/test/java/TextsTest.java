@@ -77,6 +77,9 @@ public final class TextsTest {
         refusedText(p, "n0", 1, 0, 0);
         refusedText(p, "v;n51", 1, 0, 1);
         refusedText(p, "p;p", 9, 10, 1);
+        PumpParliament empty = new PumpParliament();
+        refusedText(empty, "v", 3, 0, 0);
+        refusedText(empty, "r9;n9;v", 3, 0, 2);
         due.isRefused("behind a text the command is 0", p, 3, 7, () -> p.leave(7));
         due.isThrownOnly("the empty text", BAD_ARGUMENT, p::commands);
         due.isReason("a fault is no refusal", p, 3, 7, 0);
@@ -267,6 +270,10 @@ public final class TextsTest {
         due.isNumber("9 stays 9 and 1 becomes 0", 3f, p.meanTemper());
         p.household(1, 19, 0);
         due.isNumber("not rounded", 2.25f, p.meanTemper());
+        for (int k = 0; k < 4; k++) {
+            p.household(1, 10, 2);
+        }
+        due.isNumber("of eight", 2.125f, p.meanTemper());
     }
 
     private static void promise33Share() {
@@ -410,5 +417,55 @@ public final class TextsTest {
             due.isText("the same calls", withoutChanges(later), withoutChanges(Checks.all(p)));
         }
         due.is("undo of what came behind", 2, p.undo());
+        restoreOtherHouseholds();
+        restoreLawAndDrought();
+    }
+
+    private static void restoreOtherHouseholds() {
+        PumpParliament p = new PumpParliament();
+        p.household(3, 4, 5);
+        p.save();
+        String saved = Checks.all(p);
+        p.undo();
+        p.household(9, 19, 0);
+        p.restore();
+        due.isText("the households", withoutChanges(saved), withoutChanges(Checks.all(p)));
+    }
+
+    private static void restoreLawAndDrought() {
+        PumpParliament p = Checks.dryPump(new int[][] {{2, 0, 9}, {9, 9, 9}, {8, 18, 9}});
+        p.household(9, 3, 2);
+        p.household(9, 6, 2);
+        p.household(1, 10, 0);
+        p.household(9, 13, 5);
+        p.night(1);
+        due.is("vote", 0, p.vote());
+        due.is("drought", 1, p.account(12));
+        due.is("the half turns", 3, p.householdOf(1, 3));
+        p.save();
+        p.rain(9);
+        p.night(50);
+        due.is("no drought", 0, p.account(12));
+        due.is("undo", 7, p.undo());
+        due.is("drought again", 1, p.account(12));
+        p.restore();
+        due.is("drought of the snapshot", 1, p.account(12));
+
+        PumpParliament q = Checks.pumpOf(new int[][] {{6, 0, 0}, {1, 9, 9}});
+        q.save();
+        due.is("vote", 2, q.vote());
+        due.is("undo", 2, q.undo());
+        due.is("the law before", 0, q.account(10));
+        q.vote();
+        q.save();
+        q.restore();
+        due.is("the law that was saved", 2, q.account(10));
+        Checks.say(q, "j0;j1;d3");
+        String minutes = Checks.minutes(q);
+        q.save();
+        q.undo();
+        Checks.say(q, "v;v;v;v");
+        q.restore();
+        due.isText("the minutes that were saved", minutes, Checks.minutes(q));
     }
 }
