@@ -43,7 +43,8 @@ final class BoundsOfActions {
 
     private static void household(Sentences s) {
         s.of("Promise 2");
-        s.holds("Adds a household. - `members`: its members - `place`: its place - `temper`: its temper Returns its number.",
+        s.holds("Adds a household. - `members`: its members - `place`: its place - `temper`: its temper Returns its"
+            + " number.",
             """
             household(1, 0, 0) = 0; household(9, 19, 9) = 1; account(1) = 2
             householdOf(0, 0) = 1; householdOf(0, 1) = 0; householdOf(0, 2) = 0; householdOf(0, 3) = 1
@@ -130,7 +131,8 @@ final class BoundsOfActions {
     private static void vote(Sentences s) {
         s.of("Promise 6");
         s.holds("Returns the law then.", "household(9, 0, 9) = 0; vote() = 0; account(10) = 0",
-            "household(1, 0, 9) = 0; vote() = 1; account(10) = 1", "household(1, 0, 0) = 0; vote() = 2; account(10) = 2");
+            "household(1, 0, 9) = 0; vote() = 1; account(10) = 1", "household(1, 0, 0) = 0; vote() = 2; "
+            + "account(10) = 2");
         s.holds(REFUSAL + "3, with the detail 0, if there are no households; the reason is kept", """
             vote() = refused 3 0; household(1, 0, 9) = 0; vote() = 1; reason(0) = 3; undo() = 1; undo() = 0
             vote() = refused 3 0; say("v") = refused 3 0; say("r1;v") = refused 3 0 1

@@ -31,7 +31,8 @@ final class BoundsOfQuestions {
     /** With no household and with two: no other number may be taken, in the place of "#". */
     private static String[] withoutHousehold(String call) {
         StringBuilder none = new StringBuilder(call.replace("#", "0")).append(" = throws IndexOutOfBoundsException\n");
-        StringBuilder two = new StringBuilder("household(9, 0, 0) = 0; household(9, 9, 0) = 1; join(0) = 0; draw(1) = 10\n");
+        StringBuilder two = new StringBuilder("household(9, 0, 0) = 0; household(9, 9, 0) = 1; join(0) = 0; "
+            + "draw(1) = 10\n");
         for (String other : OTHER_HOUSEHOLDS) {
             none.append(call.replace("#", other)).append(" = throws IndexOutOfBoundsException\n");
             two.append(call.replace("#", other)).append(" = throws IndexOutOfBoundsException\n");
@@ -51,9 +52,9 @@ final class BoundsOfQuestions {
 
     private static void householdOf(Sentences s) {
         s.of("Promise 11");
-        s.holds("`what`: 0 for its members, 1 for its place, 2 for its temper, 3 for its turns a day, 4 for those that it"
-            + " has left, 5 for its draws on this day, 6 for the turns that it lost on this day, 7 for the water that it"
-            + " drew so far, 8 for its place in the queue, or -1", """
+        s.holds("`what`: 0 for its members, 1 for its place, 2 for its temper, 3 for its turns a day, 4 for those"
+            + " that it has left, 5 for its draws on this day, 6 for the turns that it lost on this day, 7 for the"
+            + " water that it drew so far, 8 for its place in the queue, or -1", """
             household(8, 5, 9) = 0; household(9, 6, 8) = 1; household(7, 0, 0) = 2; household(9, 3, 0) = 3
             join(0) = 0; draw(1) = 10; night(1); join(0) = 0; draw(1) = 10; leave(0) = 0
             join(1) = 0; join(0) = 0; join(2) = 1; draw(1) = 10
@@ -121,7 +122,8 @@ final class BoundsOfQuestions {
             household(1, 10, 0) = 3; wouldWin(0, 1) = 0; wouldWin(1, 0) = 1
             household(1, 11, 0) = 4; wouldWin(0, 1) = 1; wouldWin(1, 0) = 1; account(7) = 0
             """, """
-            household(1, 5, 9) = 0; household(1, 7, 9) = 1; household(1, 6, 0) = 2; wouldWin(0, 1) = 0; wouldWin(1, 0) = 1
+            household(1, 5, 9) = 0; household(1, 7, 9) = 1; household(1, 6, 0) = 2; wouldWin(0, 1) = 0
+            wouldWin(1, 0) = 1
             """, Scenes.EIGHT + "wouldWin(0, 7) = 0; wouldWin(7, 0) = 7; wouldWin(2, 3) = 3; wouldWin(5, 4) = 4");
         s.holds(NO_HOUSEHOLD, with(withoutHousehold("wouldWin(#, 0)"), withoutHousehold("wouldWin(0, #)")));
         s.holds("Throws `IllegalArgumentException` if both are the same", """
@@ -184,13 +186,15 @@ final class BoundsOfQuestions {
             household(1, 0, 0) = 0; turnIn(0) = throws NoSuchElementException; join(0) = 0; turnIn(0) = 1; draw(1) = 10
             turnIn(0) = throws NoSuchElementException; night(1); join(0) = 0; turnIn(0) = 1; leave(0) = 0
             turnIn(0) = throws NoSuchElementException
-            """, Scenes.meeting("9, 5, 9", "9, 7, 9", "", -1) + "turnIn(1) = throws NoSuchElementException; turnIn(0) = 1");
+            """, Scenes.meeting("9, 5, 9", "9, 7, 9", "", -1) + "turnIn(1) = throws NoSuchElementException; "
+            + "turnIn(0) = 1");
     }
 
     private static void possible(Sentences s) {
         s.of("Promise 20");
-        s.holds("Returns how many draws there would be if all households in the queue drew until they leave it, whatever"
-            + " water there is.", "possible() = 0\n" + Scenes.EIGHT + "possible() = 0\n" + Scenes.ALL_JOIN + """
+        s.holds("Returns how many draws there would be if all households in the queue drew until they leave it,"
+            + " whatever water there is.",
+            "possible() = 0\n" + Scenes.EIGHT + "possible() = 0\n" + Scenes.ALL_JOIN + """
             possible() = 40; draw(39) = 333; possible() = 1; draw(1) = 7; possible() = 0; queue() = ""
             """, "household(9, 0, 0) = 0; household(9, 9, 0) = 1\n" + Scenes.DROUGHT
             + "join(0) = 0; draw(3) = 15; night(1)\n".repeat(5) + """
@@ -209,8 +213,12 @@ final class BoundsOfQuestions {
             wouldBring(51) = 405; account(8) = 0; account(3) = 500
             """, "household(9, 0, 0) = 0; join(0) = 0; draw(5) = 50; wouldBring(5) = 50; wouldBring(6) = 59",
             "household(9, 0, 0) = 0; household(9, 9, 0) = 1\n" + Scenes.DROUGHT
-            + "join(0) = 0; draw(3) = 15; night(1)\n".repeat(5) + "account(3) = 0; wouldBring(1) = 5; wouldBring(60) = 300");
-        s.holds("`draws`: how many, 0 to 60", "wouldBring(0) = 0; wouldBring(60) = 450; wouldBring(59) = 445");
+            + "join(0) = 0; draw(3) = 15; night(1)\n".repeat(5) + "account(3) = 0; wouldBring(1) = 5; "
+            + "wouldBring(60) = 300");
+        s.holds("`draws`: how many, 0 to 60", """
+            wouldBring(0) = 0; wouldBring(1) = 10; wouldBring(59) = 445; wouldBring(60) = 450
+            wouldBring(-1) = throws IllegalArgumentException; wouldBring(61) = throws IllegalArgumentException
+            """);
         s.holds("Throws `IllegalArgumentException` if the number is out of range", """
             wouldBring(-1) = throws IllegalArgumentException; wouldBring(0) = 0; wouldBring(60) = 450
             wouldBring(61) = throws IllegalArgumentException; wouldBring(MIN) = throws IllegalArgumentException
@@ -220,8 +228,8 @@ final class BoundsOfQuestions {
 
     private static void wellIn(Sentences s) {
         s.of("Promise 22");
-        s.holds("Returns the water of the well after nights, if nothing happened but that on each day so much was drawn,"
-            + " or all that there is, ahead of the night.", """
+        s.holds("Returns the water of the well after nights, if nothing happened but that on each day so much was"
+            + " drawn, or all that there is, ahead of the night.", """
             wellIn(1, 0) = 520; wellIn(1, 20) = 500; wellIn(1, 499) = 21; wellIn(1, 500) = 20; wellIn(1, 501) = 20
             wellIn(1, 999) = 20; wellIn(2, 260) = 20; wellIn(2, 259) = 22; wellIn(2, 261) = 20; wellIn(3, 260) = 20
             wellIn(24, 0) = 980; wellIn(25, 0) = 999; wellIn(100, 0) = 999; account(3) = 500; account(0) = 0
@@ -262,11 +270,13 @@ final class BoundsOfQuestions {
             "rain(9); droughtIn(500) = 1; droughtIn(490) = 2; droughtIn(491) = 1; night(6) = 999; droughtIn(989) = 2; "
             + "droughtIn(990) = 1");
         s.holds("`drawn`: the water that is drawn on each day, 0 to 999", """
-            droughtIn(0) = throws NoSuchElementException; droughtIn(999) = 1; droughtIn(-1) = throws IllegalArgumentException
+            droughtIn(0) = throws NoSuchElementException; droughtIn(999) = 1
+            droughtIn(-1) = throws IllegalArgumentException
             droughtIn(1000) = throws IllegalArgumentException
             """);
         s.holds("Returns the number of nights, 0 if there is one.", Scenes.WELL_OF_119 + """
-            join(0) = 0; draw(2) = 20; account(3) = 99; account(12) = 0; droughtIn(0) = 1; night(1) = 99; account(12) = 1
+            join(0) = 0; draw(2) = 20; account(3) = 99; account(12) = 0; droughtIn(0) = 1; night(1) = 99
+            account(12) = 1
             droughtIn(0) = 0; droughtIn(999) = 0; rain(9) = 0; droughtIn(0) = 0; night(1) = 189
             droughtIn(0) = throws NoSuchElementException
             """,
@@ -284,11 +294,13 @@ final class BoundsOfQuestions {
             droughtIn(0) = 0; droughtIn(999) = 0
             """);
         s.holds("Throws `NoSuchElementException` if there would be none within 100 nights", """
-            rain(0); droughtIn(4) = throws NoSuchElementException; droughtIn(5) = 81; droughtIn(0) = throws NoSuchElementException
+            rain(0); droughtIn(4) = throws NoSuchElementException; droughtIn(5) = 81
+            droughtIn(0) = throws NoSuchElementException
             """, Scenes.EIGHT + "rain(9) = 2\n" + Scenes.ALL_JOIN + """
             draw(19) = 181; night(2) = 499; rain(0) = 9; wellIn(99, 4) = 103; wellIn(100, 4) = 99; droughtIn(4) = 100
             rain(1) = 0; droughtIn(14) = 100; droughtIn(13) = throws NoSuchElementException
-            """, "rain(1); droughtIn(14) = throws NoSuchElementException; wellIn(100, 14) = 100; droughtIn(15) = 81", """
+            """, "rain(1); droughtIn(14) = throws NoSuchElementException; wellIn(100, 14) = 100; "
+            + "droughtIn(15) = 81", """
             rain(9); droughtIn(90) = throws NoSuchElementException; droughtIn(94) = throws NoSuchElementException
             wellIn(100, 94) = 100; droughtIn(95) = 81
             """);
@@ -305,7 +317,8 @@ final class BoundsOfQuestions {
             + "account(3) = 0; account(4) = 500; water() = 500");
         s.of("Promise 25");
         s.holds("Returns the same by a second way: by 500 and the rain that fell.",
-            "waterAgain() = 500; rain(0); waterAgain() = 500; night(50); waterAgain() = 500; rain(9); waterAgain() = 500; "
+            "waterAgain() = 500; rain(0); waterAgain() = 500; night(50); waterAgain() = 500; rain(9); "
+            + "waterAgain() = 500; "
             + "night(1); waterAgain() = 590; night(50); waterAgain() = 5090; save(); night(1); restore(); "
             + "waterAgain() = 5090; water() = 5090",
             rich + "waterAgain() = 1400; undo(); waterAgain() = 1310; undo(); undo(); waterAgain() = 1040");
@@ -343,11 +356,11 @@ final class BoundsOfQuestions {
 
     private static void account(Sentences s) {
         s.of("Promise 34");
-        s.holds("`what`: 0 for the day, 1 for the households, 2 for those in the queue, 3 for the water of the well, 4 for"
-            + " the water that was drawn so far, 5 for the water that was spilled so far, 6 for the draws so far, 7 for"
-            + " the quarrels so far, 8 for the wear of the leather, 9 for the coins, 10 for the law, 11 for the rain, 12"
-            + " for 1 if there is a drought, otherwise 0, 13 for the minutes that are kept, 14 for the changes that can"
-            + " be undone, 15 for the characters in the text buffer", """
+        s.holds("`what`: 0 for the day, 1 for the households, 2 for those in the queue, 3 for the water of the well,"
+            + " 4 for the water that was drawn so far, 5 for the water that was spilled so far, 6 for the draws so"
+            + " far, 7 for the quarrels so far, 8 for the wear of the leather, 9 for the coins, 10 for the law, 11"
+            + " for the rain, 12 for 1 if there is a drought, otherwise 0, 13 for the minutes that are kept, 14 for"
+            + " the changes that can be undone, 15 for the characters in the text buffer", """
             household(9, 0, 9) = 0; household(9, 1, 9) = 1; household(4, 9, 0) = 2; household(5, 18, 0) = 3
             household(5, 17, 0) = 4; rain(9) = 2; collect(47) = 47; say("j0;j1;n6") = 3; say("p;v;j0;j2;d3") = 5
             write("v;")

@@ -28,7 +28,8 @@ final class BoundsOfTerms {
         s.holds("An object is used for at most 512 calls after it has been made; what later calls answer is free.",
             "rain(9) = 2; night(50) = 999\n" + "night(50) = 999\n".repeat(508)
                 + "water() = 2291000; waterAgain() = 2291000",
-            "rain(9) = 2; night(50) = 999\n" + "night(50) = 999\n".repeat(508) + "account(0) = 25450; account(5) = 2290001",
+            "rain(9) = 2; night(50) = 999\n" + "night(50) = 999\n".repeat(508) + "account(0) = 25450; "
+            + "account(5) = 2290001",
             "collect(1) = 1; undo() = 0\n".repeat(256));
     }
 
@@ -88,8 +89,10 @@ final class BoundsOfTerms {
 
     private static void turnsOfLaws(Sentences s) {
         s.of("Laws");
-        String forLaw1 = "household(9, 0, 0) = 0; household(4, 5, 9) = 1; household(4, 9, 3) = 2; household(4, 13, 9) = 3\n";
-        String forLaw2 = "household(9, 0, 9) = 0; household(6, 5, 0) = 1; household(6, 9, 2) = 2; household(1, 13, 3) = 3\n";
+        String forLaw1 = "household(9, 0, 0) = 0; household(4, 5, 9) = 1; household(4, 9, 3) = 2; "
+            + "household(4, 13, 9) = 3\n";
+        String forLaw2 = "household(9, 0, 9) = 0; household(6, 5, 0) = 1; household(6, 9, 2) = 2; "
+            + "household(1, 13, 3) = 3\n";
         s.holds("A household has as many turns a day as the law gives it", forLaw2 + """
             householdOf(0, 3) = 5; householdOf(1, 3) = 3; vote() = 2; householdOf(0, 3) = 1; householdOf(1, 3) = 4
             join(0) = 0; draw(2) = refused 7 1; draw(1) = 10; join(0) = refused 6 1
@@ -110,7 +113,8 @@ final class BoundsOfTerms {
             join(4) = 0; draw(4) = refused 7 3; draw(3) = 30; join(4) = refused 6 3
             """);
         s.holds("by the law 2 they are 4 less its temper divided by 3;", forLaw2 + """
-            vote() = 2; household(9, 16, 5) = 4; household(9, 17, 6) = 5; household(9, 18, 8) = 6; household(9, 19, 9) = 7
+            vote() = 2; household(9, 16, 5) = 4; household(9, 17, 6) = 5; household(9, 18, 8) = 6
+            household(9, 19, 9) = 7
             householdOf(0, 3) = 1; householdOf(1, 3) = 4; householdOf(2, 3) = 4; householdOf(3, 3) = 3
             householdOf(4, 3) = 3; householdOf(5, 3) = 2; householdOf(6, 3) = 2; householdOf(7, 3) = 1
             """, """
@@ -394,7 +398,8 @@ final class BoundsOfTerms {
             "household(9, 0, 0) = 0; household(4, 5, 9) = 1; household(4, 9, 9) = 2; vote() = 0",
             "household(5, 0, 9) = 0; household(4, 5, 0) = 1; household(1, 6, 0) = 2; household(4, 9, 9) = 3; "
                 + "household(1, 12, 9) = 4; vote() = 0",
-            "household(1, 0, 9) = 0; vote() = 1; household(2, 5, 0) = 1; vote() = 2; household(9, 9, 9) = 2; vote() = 0");
+            "household(1, 0, 9) = 0; vote() = 1; household(2, 5, 0) = 1; vote() = 2; household(9, 9, 9) = 2; "
+            + "vote() = 0");
         String fiveForLaw1 = """
             household(9, 0, 9) = 0; household(4, 3, 9) = 1; household(9, 6, 9) = 2; household(4, 9, 9) = 3
             household(4, 12, 9) = 4; household(4, 15, 9) = 5; household(4, 18, 9) = 6

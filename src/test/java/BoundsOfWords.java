@@ -28,10 +28,12 @@ final class BoundsOfWords {
         String voteOnEachDay = "vote() = 1; night(1)\n";
         s.holds("The scribe keeps the latest 20 minutes, in their order.",
             "household(1, 0, 9) = 0\n" + voteOnEachDay.repeat(19) + """
-            account(13) = 19; minute(0) = "d0 law1"; minute(18) = "d18 law1"; line(19) = throws IndexOutOfBoundsException
+            account(13) = 19; minute(0) = "d0 law1"; minute(18) = "d18 law1"
+            line(19) = throws IndexOutOfBoundsException
             vote() = 1; account(13) = 20; minute(0) = "d0 law1"; minute(19) = "d19 law1"
             line(20) = throws IndexOutOfBoundsException
-            night(1); vote() = 1; account(13) = 20; minute(0) = "d1 law1"; minute(1) = "d2 law1"; minute(19) = "d20 law1"
+            night(1); vote() = 1; account(13) = 20; minute(0) = "d1 law1"; minute(1) = "d2 law1"
+            minute(19) = "d20 law1"
             line(20) = throws IndexOutOfBoundsException
             """, "household(1, 0, 9) = 0\n" + voteOnEachDay.repeat(45) + """
             account(13) = 20; minutes() = "d25 law1,d26 law1,d27 law1,d28 law1,d29 law1,d30 law1,d31 law1,d32 law1,\
@@ -54,13 +56,14 @@ final class BoundsOfWords {
             join(0) = 0; join(0) = refused 4 0; account(13) = 8
             say("v;d2;j1;p;r0;n1") = 6; account(13) = 13; undo(); account(13) = 8; restore(); account(13) = 8
             """);
-        s.holds("It is told as a line: \"d\" and the day, a blank, and then \"h\", the household, \"b\" and the water of a"
-            + " draw;", Scenes.EIGHT + """
+        s.holds("It is told as a line: \"d\" and the day, a blank, and then \"h\", the household, \"b\" and the water"
+            + " of a draw;", Scenes.EIGHT + """
             join(7) = 0; draw(1) = 10; minute(0) = "d0 h7b10"; line(0) = 8; night(9); join(0) = 0; draw(1) = 10
             minute(1) = "d9 h0b10"; night(1); join(0) = 0; draw(1); minute(2) = "d10 h0b10"; line(2) = 9
             night(50); night(39); join(0) = 0; draw(1); minute(3) = "d99 h0b10"; night(1); join(0) = 0; draw(1)
             minute(4) = "d100 h0b10"; line(4) = 10
-            draw(4); night(1); join(0) = 0; join(1) = 1; draw(2) = 19; minute(9) = "d101 h0b10"; minute(10) = "d101 h1b9"
+            draw(4); night(1); join(0) = 0; join(1) = 1; draw(2) = 19; minute(9) = "d101 h0b10"
+            minute(10) = "d101 h1b9"
             line(10) = 9
             """);
         s.holds("\"h\", the winner, \"x\" and the loser of a quarrel;", """
@@ -87,7 +90,8 @@ final class BoundsOfWords {
         s.of("Texts");
         s.holds("The text buffer holds one or more commands with \";\" between them, each a letter with numbers:",
             "say(\"r1\") = 1; account(11) = 1", "say(\"r1;r2\") = 2; account(11) = 2",
-            "household(9, 0, 0) = 0; write(\"" + Scenes.SIXTY + "\"); account(15) = 60; commands() = 30; account(2) = 1",
+            "household(9, 0, 0) = 0; write(\"" + Scenes.SIXTY + "\"); account(15) = 60; commands() = 30; "
+            + "account(2) = 1",
             Scenes.fault("", 0), Scenes.fault(";", 0), Scenes.fault(";v", 0), Scenes.fault("v;", 2),
             Scenes.fault("v;;v", 2), Scenes.fault("vv", 1), Scenes.fault("v v", 1), Scenes.fault("v;".repeat(30), 60));
         s.holds("\"j\" and a household that joins;", "household(9, 0, 0) = 0; say(\"j0\") = 1; queue() = \"0\"",
@@ -116,7 +120,8 @@ final class BoundsOfWords {
             Scenes.fault("d", 1), Scenes.fault("d;", 1), Scenes.fault("d001", 3), Scenes.fault("d1/", 2),
             Scenes.fault("d1:", 2), Scenes.fault("d12v", 3), Scenes.fault("d/", 1), Scenes.fault("d:", 1),
             Scenes.fault("n", 1), Scenes.fault("n100", 3), Scenes.fault("nv", 1), Scenes.fault("n1v", 2),
-            "household(9, 0, 0) = 0; say(\"j9\") = refused 3 9; say(\"l9\") = refused 3 9; say(\"j8\") = refused 3 8", """
+            "household(9, 0, 0) = 0; say(\"j9\") = refused 3 9; say(\"l9\") = refused 3 9; "
+            + "say(\"j8\") = refused 3 8", """
             say("n0") = refused 1 0; say("n00") = refused 1 0; say("n1") = 1; say("n01") = 1; account(0) = 2
             say("n50") = 1; account(0) = 52; say("n51") = refused 1 0; say("n99") = refused 1 0; account(0) = 52
             """, Scenes.EIGHT + """
@@ -124,8 +129,8 @@ final class BoundsOfWords {
             account(6) = 9; undo(); say("d09") = 1; account(6) = 9; undo(); say("d10") = 1; account(6) = 10
             say("d50") = refused 7 5; say("d51") = refused 1 0; say("d99") = refused 1 0
             """);
-        s.holds("The fault position of a text is the index of its first character that cannot continue such a text, or"
-            + " the length of the text if it ends too early.",
+        s.holds("The fault position of a text is the index of its first character that cannot continue such a text,"
+            + " or the length of the text if it ends too early.",
             Scenes.fault("x", 0), Scenes.fault("v;x;y", 2), Scenes.fault("j0;j", 4), Scenes.fault("j0;", 3),
             Scenes.fault("j0;d12;n123;x", 10), Scenes.fault(" v", 0), Scenes.fault("v ", 1), Scenes.fault("v; v", 2),
             Scenes.fault("v,v", 1), Scenes.fault("v:v", 1), Scenes.fault("v<v", 1), Scenes.fault("0", 0),
@@ -157,8 +162,8 @@ final class BoundsOfWords {
 
     private static void firstReason(Sentences s) {
         s.of("Reasons");
-        s.holds("Something is refused for the first that applies of the reasons that its method names, in the order in"
-            + " which it names them:", Scenes.EIGHT + """
+        s.holds("Something is refused for the first that applies of the reasons that its method names, in the order"
+            + " in which it names them:", Scenes.EIGHT + """
             household(0, 0, 0) = refused 1 0; household(1, 20, 0) = refused 1 0; household(1, 0, 10) = refused 1 0
             household(1, 0, 0) = refused 2 8
             """, Scenes.EIGHT + """
@@ -188,7 +193,8 @@ final class BoundsOfWords {
             household(1, 0, 0) = refused 2 8; undo() = 7; household(1, 0, 0) = 7; household(1, 0, 0) = refused 2 8
             """, "collect(100); collect(100); collect(100); collect(100) = 400\n" + """
             collect(100) = 500; collect(1) = refused 2 500; undo(); collect(1) = 401; collect(100) = refused 2 500
-            collect(99) = 500; collect(100) = refused 2 500; leather() = 0; collect(21) = refused 2 500; collect(20) = 500
+            collect(99) = 500; collect(100) = refused 2 500; leather() = 0; collect(21) = refused 2 500
+            collect(20) = 500
             """);
         s.holds("3, there is no such household: its number;", """
             join(0) = refused 3 0; leave(0) = refused 3 0; vote() = refused 3 0
@@ -225,11 +231,13 @@ final class BoundsOfWords {
     private static void reasonsOfDraws(Sentences s) {
         s.of("Reasons");
         s.holds("7, there are not so many draws in the queue: how many there are;", Scenes.EIGHT + """
-            draw(1) = refused 7 0; join(0) = 0; draw(6) = refused 7 5; draw(5) = 50; draw(1) = refused 7 0; undo(); undo()
+            draw(1) = refused 7 0; join(0) = 0; draw(6) = refused 7 5; draw(5) = 50; draw(1) = refused 7 0; undo()
+            undo()
             """ + Scenes.ALL_JOIN + """
             draw(41) = refused 7 40; draw(50) = refused 7 40; draw(39) = 333; draw(2) = refused 7 1; draw(1) = 7
             draw(1) = refused 7 0
-            """, Scenes.meeting("9, 5, 9", "9, 7, 9", "", -1) + "leave(0) = 0; join(1) = 0; draw(5) = refused 7 4; draw(4) = 40");
+            """, Scenes.meeting("9, 5, 9", "9, 7, 9", "", -1) + "leave(0) = 0; join(1) = 0; draw(5) = refused 7 4; "
+            + "draw(4) = 40");
         s.holds("8, the well has too little water for all of them: its water;",
             "household(9, 0, 0) = 0; household(9, 9, 0) = 1\n" + Scenes.DROUGHT
             + "join(0) = 0; draw(3) = 15; night(1)\n".repeat(4) + """
@@ -251,11 +259,13 @@ final class BoundsOfWords {
         s.holds("If nothing else is told, the detail is 0.", """
             reason(0) = throws NoSuchElementException; leave(9) = refused 3 9
             collect(0) = refused 1 0; reason(1) = 0; leave(9) = refused 3 9
-            household(9, 0, 0) = 0; leave(0) = refused 5 0; reason(1) = 0
+            household(9, 0, 0) = 0; household(9, 9, 0) = 1; leave(1) = refused 5 0; reason(1) = 0; join(1) = 0
+            leave(0) = refused 5 0; reason(1) = 0; draw(50) = refused 7 5; rain(10) = refused 1 0; reason(1) = 0
             """);
         s.holds("The reason is kept with the index of the command of a text, from 0, or 0 for another call.",
             "household(9, 0, 0) = 0; say(\"l0;v\") = refused 5 0 0; say(\"v;l0\") = refused 5 0 1\n"
-            + "reason(2) = 1; leave(7) = refused 3 7 0; reason(2) = 0; say(\"" + "v;".repeat(29) + "l7\") = refused 3 7 29\n"
+            + "reason(2) = 1; leave(7) = refused 3 7 0; reason(2) = 0; say(\"" + "v;".repeat(29) + "l7\") = refused"
+            + " 3 7 29\n"
             + "reason(2) = 29; vote() = 0; reason(2) = 29; rain(10) = refused 1 0 0; reason(2) = 0", """
             household(9, 0, 0) = 0; say("v;v;d1") = refused 7 0 2; say("v;x") = throws IllegalArgumentException
             reason(0) = 7; reason(1) = 0; reason(2) = 2; draw(1) = refused 7 0; reason(2) = 0
@@ -290,19 +300,24 @@ final class BoundsOfWords {
     private static void changesKept(Sentences s) {
         s.of("Changes");
         s.holds("What there was before each of the latest 8 is kept;", """
-            collect(1) = 1; collect(1) = 2; collect(1) = 3; collect(1) = 4; collect(1) = 5; collect(1) = 6; collect(1) = 7
+            collect(1) = 1; collect(1) = 2; collect(1) = 3; collect(1) = 4; collect(1) = 5; collect(1) = 6
+            collect(1) = 7
             account(14) = 7; collect(1) = 8; account(14) = 8
-            undo() = 7; undo() = 6; undo() = 5; undo() = 4; undo() = 3; undo() = 2; undo() = 1; undo() = 0; account(9) = 0
+            undo() = 7; undo() = 6; undo() = 5; undo() = 4; undo() = 3; undo() = 2; undo() = 1; undo() = 0
+            account(9) = 0
             undo() = throws IllegalStateException
             """, """
-            collect(1) = 1; collect(1) = 2; collect(1) = 3; collect(1) = 4; collect(1) = 5; collect(1) = 6; collect(1) = 7
+            collect(1) = 1; collect(1) = 2; collect(1) = 3; collect(1) = 4; collect(1) = 5; collect(1) = 6
+            collect(1) = 7
             collect(1) = 8; collect(1) = 9; account(14) = 8
-            undo() = 7; account(9) = 8; undo() = 6; undo() = 5; undo() = 4; undo() = 3; undo() = 2; undo() = 1; undo() = 0
+            undo() = 7; account(9) = 8; undo() = 6; undo() = 5; undo() = 4; undo() = 3; undo() = 2; undo() = 1
+            undo() = 0
             account(9) = 1; undo() = throws IllegalStateException; account(9) = 1
             """, "collect(1)\n".repeat(17) + """
             undo() = 7; undo() = 6; undo() = 5; account(9) = 14; collect(5) = 19; account(14) = 6; collect(5) = 24
             collect(5) = 29; account(14) = 8; collect(5) = 34; account(14) = 8
-            undo() = 7; account(9) = 29; undo() = 6; undo() = 5; undo() = 4; account(9) = 14; undo() = 3; account(9) = 13
+            undo() = 7; account(9) = 29; undo() = 6; undo() = 5; undo() = 4; account(9) = 14; undo() = 3
+            account(9) = 13
             undo() = 2; undo() = 1; undo() = 0; account(9) = 10; undo() = throws IllegalStateException
             """);
         s.holds("restore forgets it.", """
@@ -312,7 +327,8 @@ final class BoundsOfWords {
             """, "collect(3)\n".repeat(9) + """
             save() = 0; account(14) = 8; restore() = 0; account(14) = 0; account(9) = 27
             undo() = throws IllegalStateException
-            """, "restore() = throws IllegalStateException; collect(3); restore() = throws IllegalStateException; undo() = 0");
+            """, "restore() = throws IllegalStateException; collect(3); restore() = throws IllegalStateException; "
+            + "undo() = 0");
     }
 
     private static void notOfChanges(Sentences s) {
@@ -356,7 +372,8 @@ final class BoundsOfWords {
             commands() = 2; minutes() = "d2 h0x1,d2 h0b10,d2 h2b10,d2 h0b10,d2 law0,d2 law0,d2 h2b10"
             """, """
             vote() = refused 3 0; meanTemper() = throws ArithmeticException; undo() = throws IllegalStateException
-            restore() = throws IllegalStateException; reason(4) = throws IllegalArgumentException; household(9, 0, 0) = 0
+            restore() = throws IllegalStateException; reason(4) = throws IllegalArgumentException
+            household(9, 0, 0) = 0
             share(0) = throws ArithmeticException
             """, "write(\"" + Scenes.SIXTY + "\"); append('v') = throws IllegalStateException; account(15) = 60");
     }
@@ -418,6 +435,13 @@ final class BoundsOfWords {
             """, """
             household(9, 5, 5) = 0; household(9, 7, 5) = 1; household(1, 15, 0) = 2; household(1, 0, 0) = 3
             join(3) = 0; join(0) = 1; join(1) = -1; queue() = "3 0"
+            """, """
+            household(1, 15, 0) = 0; household(9, 5, 5) = 1; household(9, 7, 5) = 2; join(1) = 0; join(2) = 0
+            queue() = "2"; quarrels(2, 1) = 1; wouldWin(1, 2) = 2; wouldWin(2, 1) = 2
+            """, """
+            household(9, 5, 5) = 0; household(9, 7, 5) = 1; household(1, 0, 0) = 2; household(1, 15, 0) = 3
+            household(1, 0, 0) = 4; household(1, 15, 0) = 5; household(1, 15, 0) = 6; wouldWin(0, 1) = 1
+            household(1, 0, 0) = 7; wouldWin(0, 1) = 0; join(0) = 0; join(1) = -1
             """, Scenes.meeting("9, 5, 5", "9, 7, 5", "", -1));
         s.holds("The detail of the reason 7 is the number of draws that are possible.", Scenes.EIGHT + """
             draw(1) = refused 7 0; join(0) = 0; join(1) = 1; possible() = 10; draw(11) = refused 7 10; draw(3) = 30
@@ -444,10 +468,12 @@ final class BoundsOfWords {
             wouldBring(60) = 450
             """);
         s.holds("The first of the days ahead is the present one.", """
-            wellIn(0, 100) = 500; wellIn(1, 100) = 420; rain(0) = 2; droughtIn(401) = 1; droughtIn(400) = 2
+            wellIn(0, 100) = 500; wellIn(1, 100) = 420; droughtIn(421) = 1; droughtIn(420) = 2; wellIn(1, 421) = 99
+            rain(0) = 2; droughtIn(401) = 1; droughtIn(400) = 2
             wellIn(1, 401) = 99
             """);
-        s.holds("A drought that there is now is that of the day.", "household(9, 0, 0) = 0\n" + Scenes.TEN_DRY_DAYS + """
+        s.holds("A drought that there is now is that of the day.",
+            "household(9, 0, 0) = 0\n" + Scenes.TEN_DRY_DAYS + """
             account(3) = 100; join(0) = 0; draw(1) = 5; account(3) = 95; account(12) = 0; droughtIn(0) = 1
             night(1) = 95; account(12) = 1; droughtIn(0) = 0; rain(9) = 0; droughtIn(0) = 0; droughtIn(999) = 0
             night(1) = 185; account(12) = 0; droughtIn(0) = throws NoSuchElementException; droughtIn(999) = 1

@@ -198,7 +198,8 @@ final class Run {
         Trial second = replay(count);
         parts.put("the state", look(second, second.state()));
         Trial third = replay(count);
-        parts.put("what is asked", look(third, third.told()));
+        parts.put("what is asked", third.told());
+        checks.isText("the state behind questions", parts.get("the state"), look(third, third.state()));
         parts.put("the minutes", minutesOf(replay(count)));
         parts.put("the snapshot", restored(replay(count), replay(count)));
         int depth = changes.startsWith("throws ") ? 0 : Integer.parseInt(changes);

@@ -132,7 +132,7 @@ final class Trial {
     String line() {
         StringBuilder text = new StringBuilder();
         String answer = ask("character", 0);
-        for (int k = 1; !answer.startsWith("throws "); k++) {
+        for (int k = 1; !answer.startsWith("throws ") && k <= MOST_CALLS; k++) {
             text.append((char) Integer.parseInt(answer));
             answer = ask("character", k);
         }
