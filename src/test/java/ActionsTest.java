@@ -1,6 +1,6 @@
 import java.util.NoSuchElementException;
 
-/** The promises 1 to 10 and the examples: ordinary inputs, edges and wrong inputs. */
+/** The promises 1 to 10: ordinary inputs, edges and wrong inputs. */
 public final class ActionsTest {
     private static final Class<?> NO_INDEX = IndexOutOfBoundsException.class;
     private static final Class<?> BAD_STATE = IllegalStateException.class;
@@ -10,7 +10,6 @@ public final class ActionsTest {
     private static final Checks due = new Checks();
 
     public static void main(String[] args) {
-        examples();
         promise1NewObject();
         promise2Household();
         promise3Join();
@@ -23,43 +22,6 @@ public final class ActionsTest {
         promise9Collect();
         promise10Leather();
         due.end();
-    }
-
-    private static void examples() {
-        due.part("the examples");
-        PumpParliament a = new PumpParliament();
-        due.is("household", 0, a.household(4, 3, 6));
-        due.is("household", 1, a.household(2, 4, 5));
-        due.is("join", 0, a.join(0));
-        due.is("join", -1, a.join(1));
-        due.is("quarrels", 1, a.quarrels(0, 1));
-        due.is("temper", 6, a.householdOf(1, 2));
-        due.is("turns left", 0, a.householdOf(1, 4));
-        PumpParliament b = new PumpParliament();
-        due.is("household", 0, b.household(5, 0, 0));
-        due.is("join", 0, b.join(0));
-        due.is("draw", 30, b.draw(3));
-        due.is("turns left", 0, b.householdOf(0, 4));
-        due.is("water", 470, b.account(3));
-        due.isRefused("join", b, 6, 3, () -> b.join(0));
-        PumpParliament c = new PumpParliament();
-        c.household(6, 0, 0);
-        c.household(1, 9, 9);
-        due.is("vote", 2, c.vote());
-        due.is("isFor", 1, c.isFor(1));
-        due.is("turnsBy", 4, c.turnsBy(0, 2));
-        due.is("turns", 4, c.householdOf(0, 3));
-        PumpParliament d = new PumpParliament();
-        due.is("rain", 2, d.rain(0));
-        due.is("wellIn", 60, d.wellIn(4, 110));
-        due.is("droughtIn", 4, d.droughtIn(110));
-        due.is("night", 500, d.night(1));
-        due.is("drought", 0, d.account(12));
-        PumpParliament e = new PumpParliament();
-        e.household(3, 0, 0);
-        due.is("commands", 2, Checks.say(e, "j0;d1"));
-        due.is("line", 8, e.line(0));
-        due.is("character", 'h', e.character(3));
     }
 
     private static void promise1NewObject() {

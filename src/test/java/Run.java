@@ -5,14 +5,15 @@ import java.util.Map;
 
 /**
  * A run of calls on a new pump, told in rows as the document tells its examples: "join(0) = 0", with ";" or a new line
- * between them. Behind "=" stands what is due: a number, a quotient, 'a sign', "a text", "throws X", or
- * "refused R D C" for a refusal with its reason, its detail and its command (0 if it is not told). A row without "="
- * must only answer. MIN and MAX are the least and the greatest int.
+ * between them. Behind "=" stands what is due: a number, a quotient, 'a sign' (of character also without the quotes),
+ * "a text", "throws X", or "refused R D C" for a refusal with its reason, its detail and its command (0 if it is not
+ * told). A row without "=" must only answer. MIN and MAX are the least and the greatest int.
  *
  * Besides the methods there are say("text"), which appends it and calls commands; write("text"), which only appends;
  * minute(k), minutes() and queue(), which answer texts.
  *
- * Behind each row that throws, all that the pump can tell must be as before it, but for what the document says.
+ * Behind each row that throws, all that the pump can tell must be as before it, but for what the document says; which
+ * reason a row "throws UnsupportedOperationException" keeps, other rows may ask.
  */
 final class Run {
     private record Row(String name, int[] numbers, String due, String told) {
@@ -114,6 +115,9 @@ final class Run {
         if (due.startsWith("'")) {
             return Integer.toString(number(due));
         }
+        if (name.equals("character") && due.length() == 1) {
+            return Integer.toString(due.charAt(0));
+        }
         boolean single = name.equals("meanTemper");
         if (due.startsWith("throws ") || !single && !name.equals("share")) {
             return due;
@@ -122,6 +126,10 @@ final class Run {
         int above = Integer.parseInt(words[0]);
         int below = words.length > 1 ? Integer.parseInt(words[1]) : 1;
         return Double.toString(single ? (float) above / (float) below : (double) above / (double) below);
+    }
+
+    int size() {
+        return rows.size();
     }
 
     void play() {
@@ -155,6 +163,8 @@ final class Run {
             String[] words = row.due.split(" ");
             String command = words.length > 3 ? words[3] : "0";
             before.put("the reason", String.join(" ", "reason:", words[1], words[2], command));
+        } else if (row.due.equals("throws UnsupportedOperationException")) {
+            before.put("the reason", after.get("the reason"));
         }
         if (row.name.equals("commands")) {
             before.put("the buffer", "0 throws IllegalArgumentException 0");
