@@ -26,7 +26,7 @@ public final class ActionsTest {
 
     private static void promise1NewObject() {
         due.part("promise 1");
-        PumpParliament p = new PumpParliament();
+        Pump p = new Pump();
         int[] accounts = {0, 0, 0, 500, 0, 0, 0, 0, 0, 0, 0, 2, 0, 0, 0, 0};
         for (int what = 0; what < accounts.length; what++) {
             due.is("account " + what, accounts[what], p.account(what));
@@ -45,7 +45,7 @@ public final class ActionsTest {
 
     private static void promise2Household() {
         due.part("promise 2");
-        PumpParliament p = new PumpParliament();
+        Pump p = new Pump();
         int[][] wrong = {{0, 0, 0}, {10, 0, 0}, {1, -1, 0}, {1, 20, 0}, {1, 0, -1}, {1, 0, 10}};
         for (int[] w : wrong) {
             due.isRefused("household", p, 1, 0, () -> p.household(w[0], w[1], w[2]));
@@ -73,7 +73,7 @@ public final class ActionsTest {
 
     private static void promise3Join() {
         due.part("promise 3");
-        PumpParliament p = new PumpParliament();
+        Pump p = new Pump();
         due.isRefused("join", p, 3, 0, () -> p.join(0));
         p.household(1, 0, 0);
         p.household(4, 10, 0);
@@ -107,7 +107,7 @@ public final class ActionsTest {
         due.is("a tie of distance", -1, joinSecond(new int[][] {{9, 0, 5}, {9, 2, 5}, {1, 1, 0}}));
         due.is("a tie of votes", -1, joinSecond(new int[][] {{9, 3, 5}, {9, 5, 5}, {1, 9, 0}, {1, 0, 0}}));
 
-        PumpParliament p = Checks.pumpOf(new int[][] {{9, 10, 9}, {9, 12, 2}, {9, 14, 0}, {1, 19, 0}, {1, 18, 0}});
+        Pump p = Checks.pumpOf(new int[][] {{9, 10, 9}, {9, 12, 2}, {9, 14, 0}, {1, 19, 0}, {1, 18, 0}});
         due.is("join", 0, p.join(0));
         due.is("join and win", 0, p.join(1));
         due.is("the temper of who lost stays 9", 9, p.householdOf(0, 2));
@@ -131,7 +131,7 @@ public final class ActionsTest {
 
     /** Makes the households; the first one joins, and then the second one: what that answers. */
     private static int joinSecond(int[][] households) {
-        PumpParliament p = Checks.pumpOf(households);
+        Pump p = Checks.pumpOf(households);
         due.is("the first one joins", 0, p.join(0));
         int answer = p.join(1);
         due.is("its place", answer, p.householdOf(1, 8));
@@ -141,7 +141,7 @@ public final class ActionsTest {
     private static void aheadOneByOne() {
         // 0 is a neighbour of 2, but not the one ahead of it
         int[][] calmBetween = {{5, 8, 7}, {5, 9, 0}, {5, 10, 9}, {1, 15, 0}, {1, 16, 0}, {1, 17, 0}};
-        PumpParliament p = Checks.pumpOf(calmBetween);
+        Pump p = Checks.pumpOf(calmBetween);
         due.is("join", 0, p.join(0));
         due.is("join", 1, p.join(1));
         due.is("no quarrel with 1", 2, p.join(2));
@@ -151,7 +151,7 @@ public final class ActionsTest {
         due.is("the temper of 2", 8, p.householdOf(2, 2));
 
         int[][] oneOfTwo = {{5, 8, 4}, {5, 9, 5}, {5, 10, 6}, {1, 15, 0}, {1, 16, 0}, {1, 17, 0}};
-        PumpParliament q = Checks.pumpOf(oneOfTwo);
+        Pump q = Checks.pumpOf(oneOfTwo);
         q.join(0);
         q.join(1);
         due.is("two quarrels are asked one by one", 1, q.join(2));
@@ -161,7 +161,7 @@ public final class ActionsTest {
         due.is("the second one", 2, q.at(1));
 
         int[][] bothOfTwo = {{5, 8, 4}, {5, 9, 5}, {5, 10, 7}, {1, 15, 0}, {1, 16, 0}, {1, 17, 0}};
-        PumpParliament r = Checks.pumpOf(bothOfTwo);
+        Pump r = Checks.pumpOf(bothOfTwo);
         r.join(0);
         r.join(1);
         due.is("two quarrels are won", 0, r.join(2));
@@ -170,7 +170,7 @@ public final class ActionsTest {
 
         // 2 wins against 1 by the votes of those near to it, and loses against 0 by the same ones
         int[][] oneWonOneLost = {{5, 9, 5}, {5, 12, 4}, {5, 11, 9}, {1, 0, 0}, {1, 1, 0}, {1, 2, 0}};
-        PumpParliament t = Checks.pumpOf(oneWonOneLost);
+        Pump t = Checks.pumpOf(oneWonOneLost);
         t.join(0);
         t.join(1);
         due.is("one won and one lost", -1, t.join(2));
@@ -182,7 +182,7 @@ public final class ActionsTest {
     }
 
     private static void winnerAtTemperZero() {
-        PumpParliament p = Checks.pumpOf(new int[][] {{9, 0, 9}, {9, 1, 1}});
+        Pump p = Checks.pumpOf(new int[][] {{9, 0, 9}, {9, 1, 1}});
         p.join(0);
         due.is("lost", -1, p.join(1));
         due.is("the winner's temper", 8, p.householdOf(0, 2));
@@ -190,7 +190,7 @@ public final class ActionsTest {
     }
 
     private static void turnsLostAreNotBelowZero() {
-        PumpParliament p = Checks.pumpOf(new int[][] {{4, 0, 9}, {9, 1, 9}});
+        Pump p = Checks.pumpOf(new int[][] {{4, 0, 9}, {9, 1, 9}});
         due.is("join", 0, p.join(1));
         due.is("draw", 10, p.draw(1));
         due.is("lost", -1, p.join(0));
@@ -201,7 +201,7 @@ public final class ActionsTest {
         due.is("turns left", 2, p.householdOf(0, 4));
         due.is("quarrels stay", 2, p.quarrels(1, 0));
         // three turns drawn by the law 0; by the law 2 there is 1 then, and 1 - 3 is told as 0
-        PumpParliament r = Checks.pumpOf(new int[][] {{6, 0, 9}, {4, 9, 2}, {4, 9, 2}});
+        Pump r = Checks.pumpOf(new int[][] {{6, 0, 9}, {4, 9, 2}, {4, 9, 2}});
         r.join(0);
         r.draw(3);
         due.is("vote for the law 2", 2, r.vote());
@@ -212,7 +212,7 @@ public final class ActionsTest {
 
     private static void promise4Leave() {
         due.part("promise 4");
-        PumpParliament p = Checks.pumpOf(new int[][] {{1, 0, 0}, {1, 5, 0}, {1, 10, 0}});
+        Pump p = Checks.pumpOf(new int[][] {{1, 0, 0}, {1, 5, 0}, {1, 10, 0}});
         p.join(0);
         p.join(1);
         due.isRefused("leave", p, 3, -1, () -> p.leave(-1));
@@ -235,7 +235,7 @@ public final class ActionsTest {
 
     private static void promise5Draw() {
         due.part("promise 5");
-        PumpParliament p = Checks.pumpOf(new int[][] {{3, 0, 0}, {9, 5, 0}, {1, 10, 0}});
+        Pump p = Checks.pumpOf(new int[][] {{3, 0, 0}, {9, 5, 0}, {1, 10, 0}});
         due.isRefused("nobody waits", p, 7, 0, () -> p.draw(1));
         p.join(0);
         p.join(1);
@@ -267,7 +267,7 @@ public final class ActionsTest {
     }
 
     private static void noQuarrelBehindADraw() {
-        PumpParliament p = Checks.pumpOf(new int[][] {{9, 0, 9}, {9, 9, 9}, {9, 1, 9}});
+        Pump p = Checks.pumpOf(new int[][] {{9, 0, 9}, {9, 9, 9}, {9, 1, 9}});
         p.join(0);
         p.join(1);
         p.join(2);
@@ -283,7 +283,7 @@ public final class ActionsTest {
 
     private static void wearAndWater() {
         int[][] eight = {{9, 0, 0}, {9, 3, 0}, {9, 6, 0}, {9, 9, 0}, {9, 12, 0}, {9, 15, 0}, {9, 18, 0}, {9, 19, 0}};
-        PumpParliament p = Checks.pumpOf(eight);
+        Pump p = Checks.pumpOf(eight);
         int[] brings = {10, 10, 9, 9, 8, 8, 7, 7, 6, 6, 5, 5, 5, 5};
         for (int k = 0; k < brings.length; k++) {
             p.join(k % 8);
@@ -303,7 +303,7 @@ public final class ActionsTest {
         due.is("the last water", 5, p.draw(1));
         due.isRefused("the well is empty", p, 8, 0, () -> p.draw(1));
         due.is("the well", 0, p.account(3));
-        PumpParliament q = Checks.pumpOf(eight);
+        Pump q = Checks.pumpOf(eight);
         q.rain(9);
         q.night(1);
         Checks.say(q, "j0;j1;j2;j3;j4;j5;j6;j7");
@@ -317,11 +317,11 @@ public final class ActionsTest {
 
     private static void promise6Vote() {
         due.part("promise 6");
-        PumpParliament none = new PumpParliament();
+        Pump none = new Pump();
         due.isRefused("vote without households", none, 3, 0, none::vote);
-        PumpParliament tie = Checks.pumpOf(new int[][] {{5, 0, 0}, {5, 9, 9}});
+        Pump tie = Checks.pumpOf(new int[][] {{5, 0, 0}, {5, 9, 9}});
         due.is("5 members for 2, 5 for 0", 0, tie.vote());
-        PumpParliament p = Checks.pumpOf(new int[][] {{2, 0, 9}, {3, 5, 0}, {5, 10, 9}});
+        Pump p = Checks.pumpOf(new int[][] {{2, 0, 9}, {3, 5, 0}, {5, 10, 9}});
         due.is("2 members for 1, 3 for 2, 5 for 0", 0, p.vote());
         p.household(4, 15, 4);
         due.is("6 members for 1", 1, p.vote());
@@ -329,12 +329,12 @@ public final class ActionsTest {
         due.is("turns", 3, p.householdOf(0, 3));
         due.isText("minutes", "d0 law0,d0 law1", Checks.minutes(p));
         due.is("the changes", 6, p.account(14));
-        PumpParliament middle = Checks.pumpOf(new int[][] {{1, 0, 0}, {3, 5, 9}, {2, 10, 9}});
+        Pump middle = Checks.pumpOf(new int[][] {{1, 0, 0}, {3, 5, 9}, {2, 10, 9}});
         due.is("1 member for 2, 5 for 1", 1, middle.vote());
-        PumpParliament three = Checks.pumpOf(new int[][] {{7, 0, 9}, {4, 5, 9}, {4, 6, 9}, {2, 10, 0}});
+        Pump three = Checks.pumpOf(new int[][] {{7, 0, 9}, {4, 5, 9}, {4, 6, 9}, {2, 10, 0}});
         due.is("7 members for 0, 8 for 1, 2 for 2", 1, three.vote());
         int[][] eight = {{9, 0, 0}, {9, 3, 0}, {9, 6, 0}, {9, 9, 0}, {9, 12, 0}, {9, 15, 0}, {9, 18, 0}, {9, 19, 0}};
-        PumpParliament full = Checks.pumpOf(eight);
+        Pump full = Checks.pumpOf(eight);
         Checks.say(full, "j7;j6;j5;j4;j3;j2;j1;j0");
         due.is("vote with all in the queue", 0, full.vote());
         due.is("all wait", 8, full.account(2));
@@ -344,7 +344,7 @@ public final class ActionsTest {
     private static void leavingBehindAVote() {
         // five are for the law 1; its 3 turns are too few for the households 0 and 2, which drew 3 times
         int[][] seven = {{9, 0, 9}, {4, 3, 9}, {9, 6, 9}, {4, 9, 9}, {4, 12, 9}, {4, 15, 9}, {4, 18, 9}};
-        PumpParliament p = Checks.pumpOf(seven);
+        Pump p = Checks.pumpOf(seven);
         Checks.say(p, "j0;j2;d6;j3;j4");
         due.is("four wait", 4, p.account(2));
         due.is("they are for 0", 18, p.membersFor(0));
@@ -357,7 +357,7 @@ public final class ActionsTest {
         due.is("possible", 6, p.possible());
         due.isRefused("join", p, 6, 3, () -> p.join(2));
         // a household with turns left stays
-        PumpParliament q = Checks.pumpOf(seven);
+        Pump q = Checks.pumpOf(seven);
         Checks.say(q, "j0;j2;d5");
         due.is("vote", 1, q.vote());
         due.is("one waits", 1, q.account(2));
@@ -366,7 +366,7 @@ public final class ActionsTest {
 
     private static void promise7Rain() {
         due.part("promise 7");
-        PumpParliament p = new PumpParliament();
+        Pump p = new Pump();
         due.is("rain", 2, p.rain(9));
         due.is("rain", 9, p.rain(0));
         due.is("rain", 0, p.rain(0));
@@ -384,7 +384,7 @@ public final class ActionsTest {
 
     private static void promise8Night() {
         due.part("promise 8");
-        PumpParliament p = Checks.pumpOf(new int[][] {{9, 0, 9}, {9, 9, 9}});
+        Pump p = Checks.pumpOf(new int[][] {{9, 0, 9}, {9, 9, 9}});
         for (int wrong : new int[] {0, -1, 51, Integer.MIN_VALUE, Integer.MAX_VALUE}) {
             due.isRefused("night", p, 1, 0, () -> p.night(wrong));
         }
@@ -409,12 +409,12 @@ public final class ActionsTest {
     }
 
     private static void drought() {
-        PumpParliament p = Checks.dryPump(new int[][] {{9, 0, 0}, {9, 9, 9}, {1, 18, 0}});
+        Pump p = Checks.dryPump(new int[][] {{9, 0, 0}, {9, 9, 9}, {1, 18, 0}});
         due.is("no drought within the day", 0, p.account(12));
         p.rain(9);
         p.night(1);
         due.is("the rain ends it", 0, p.account(12));
-        PumpParliament q = Checks.dryPump(new int[][] {{9, 0, 0}, {9, 9, 9}, {1, 18, 0}});
+        Pump q = Checks.dryPump(new int[][] {{9, 0, 0}, {9, 9, 9}, {1, 18, 0}});
         int level = q.account(3);
         due.is("the night", level, q.night(1));
         due.is("drought", 1, q.account(12));
@@ -429,7 +429,7 @@ public final class ActionsTest {
         int nights = (100 - level + 9) / 10;
         due.is("nights", level + 10 * nights, q.night(nights));
         due.is("100 of water are no drought", 0, q.account(12));
-        PumpParliament r = Checks.dryPump(new int[][] {{9, 0, 0}, {9, 9, 2}, {9, 18, 2}});
+        Pump r = Checks.dryPump(new int[][] {{9, 0, 0}, {9, 9, 2}, {9, 18, 2}});
         r.night(1);
         due.is("join", 0, r.join(0));
         due.is("possible in a drought", 3, r.possible());
@@ -444,7 +444,7 @@ public final class ActionsTest {
 
     private static void promise9Collect() {
         due.part("promise 9");
-        PumpParliament p = new PumpParliament();
+        Pump p = new Pump();
         for (int wrong : new int[] {0, -1, 101, Integer.MIN_VALUE, Integer.MAX_VALUE}) {
             due.isRefused("collect", p, 1, 0, () -> p.collect(wrong));
         }
@@ -462,7 +462,7 @@ public final class ActionsTest {
 
     private static void promise10Leather() {
         due.part("promise 10");
-        PumpParliament p = Checks.pumpOf(new int[][] {{9, 0, 0}});
+        Pump p = Checks.pumpOf(new int[][] {{9, 0, 0}});
         due.isRefused("leather", p, 9, 20, p::leather);
         p.collect(19);
         due.isRefused("leather", p, 9, 1, p::leather);

@@ -37,7 +37,7 @@ final class Checks {
     }
 
     /** The call must throw just this class, and nothing that the pump tells of itself may change. */
-    void isThrown(String what, Class<?> due, PumpParliament pump, Call call) {
+    void isThrown(String what, Class<?> due, Pump pump, Call call) {
         String before = all(pump);
         isThrownOnly(what, due, call);
         isText(what + ": the state behind it", before, all(pump));
@@ -58,12 +58,12 @@ final class Checks {
     }
 
     /** A refusal: UnsupportedOperationException, an unchanged state, and the reason that is kept. */
-    void isRefused(String what, PumpParliament pump, int reason, int detail, Call call) {
+    void isRefused(String what, Pump pump, int reason, int detail, Call call) {
         isThrown(what, UnsupportedOperationException.class, pump, call);
         isReason(what, pump, reason, detail, 0);
     }
 
-    void isReason(String what, PumpParliament pump, int reason, int detail, int command) {
+    void isReason(String what, Pump pump, int reason, int detail, int command) {
         is(what + ": the reason", reason, pump.reason(0));
         is(what + ": its detail", detail, pump.reason(1));
         is(what + ": its command", command, pump.reason(2));
@@ -83,22 +83,22 @@ final class Checks {
         }
     }
 
-    static void write(PumpParliament pump, String text) {
+    static void write(Pump pump, String text) {
         for (int k = 0; k < text.length(); k++) {
             pump.append(text.charAt(k));
         }
     }
 
-    static int say(PumpParliament pump, String text) {
+    static int say(Pump pump, String text) {
         write(pump, text);
         return pump.commands();
     }
 
-    static String minute(PumpParliament pump, int minute) {
+    static String minute(Pump pump, int minute) {
         return text(pump, pump.line(minute));
     }
 
-    static String text(PumpParliament pump, int length) {
+    static String text(Pump pump, int length) {
         StringBuilder text = new StringBuilder();
         for (int k = 0; k < length; k++) {
             text.append(pump.character(k));
@@ -107,7 +107,7 @@ final class Checks {
     }
 
     /** All that can be undone, as a text, but for the minutes' own words: asking for these would change the line. */
-    static String all(PumpParliament pump) {
+    static String all(Pump pump) {
         StringBuilder text = new StringBuilder("accounts");
         for (int what = 0; what <= 15; what++) {
             text.append(' ').append(pump.account(what));
@@ -131,7 +131,7 @@ final class Checks {
         return text.toString();
     }
 
-    static String minutes(PumpParliament pump) {
+    static String minutes(Pump pump) {
         List<String> lines = new ArrayList<>();
         for (int k = 0; k < pump.account(13); k++) {
             lines.add(minute(pump, k));
@@ -139,8 +139,8 @@ final class Checks {
         return String.join(",", lines);
     }
 
-    static PumpParliament pumpOf(int[][] households) {
-        PumpParliament p = new PumpParliament();
+    static Pump pumpOf(int[][] households) {
+        Pump p = new Pump();
         for (int[] h : households) {
             p.household(h[0], h[1], h[2]);
         }
@@ -148,8 +148,8 @@ final class Checks {
     }
 
     /** A pump without rain whose well has less than 100, on a day that has not been one of drought. */
-    static PumpParliament dryPump(int[][] households) {
-        PumpParliament p = pumpOf(households);
+    static Pump dryPump(int[][] households) {
+        Pump p = pumpOf(households);
         p.rain(0);
         while (p.account(3) >= 100) {
             p.night(1);

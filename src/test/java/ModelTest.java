@@ -1,7 +1,8 @@
-/** Long runs of calls, of which the pump and the model must answer each alike. */
+/** Long runs of calls, of which the pump and the model must answer each alike. A run has fewer than 512 changes. */
 public final class ModelTest {
     private static final int RUNS = 1000;
-    private static final int CALLS = 512;
+    private static final int STEPS = 512;
+    private static final int MOST_CHANGES = 470;
     private static final int KINDS = 37;
 
     private static final Checks due = new Checks();
@@ -37,7 +38,7 @@ public final class ModelTest {
     }
 
     private static void play(int style) {
-        PumpParliament pump = new PumpParliament();
+        Pump pump = new Pump();
         Model model = new Model();
         for (int k = 0; k < style + chance(4); k++) {
             int members = 1 + chance(9);
@@ -48,12 +49,13 @@ public final class ModelTest {
         if (style >= 3) {
             due.is("rain", model.call('r', style - 3), pump.rain(style - 3));
         }
-        for (int k = 0; k < CALLS - 20; k++) {
+        for (int k = 0; k < STEPS && pump.changes() < MOST_CHANGES; k++) {
             step(pump, model, k);
         }
+        compare(pump, model);
     }
 
-    private static void step(PumpParliament pump, Model model, int number) {
+    private static void step(Pump pump, Model model, int number) {
         int kind = chance(100);
         if (kind < 25) {
             act(pump, model, 2, near(0, 7), 0, 0, ' ');
@@ -73,7 +75,7 @@ public final class ModelTest {
         }
     }
 
-    private static void any(PumpParliament pump, Model model) {
+    private static void any(Pump pump, Model model) {
         int kind = 1 + chance(KINDS - 1);
         int[][] ranges = {{0, 0}, {1, 9}, {0, 7}, {0, 7}, {1, 50}, {0, 0}, {0, 9}, {1, 50}, {1, 100}, {0, 0}, {0, 7},
             {0, 7}, {0, 7}, {0, 7}, {0, 7}, {0, 7}, {0, 7}, {0, 3}, {0, 7}, {0, 0}, {0, 60}, {0, 100}, {0, 999}, {0, 0},
@@ -91,7 +93,7 @@ public final class ModelTest {
         }
     }
 
-    private static void speak(PumpParliament pump, Model model) {
+    private static void speak(Pump pump, Model model) {
         StringBuilder text = new StringBuilder();
         int parts = 1 + chance(6);
         for (int k = 0; k < parts; k++) {
@@ -117,7 +119,7 @@ public final class ModelTest {
         act(pump, model, 27, 0, 0, 0, ' ');
     }
 
-    private static void act(PumpParliament pump, Model model, int kind, int first, int second, int third, char sign) {
+    private static void act(Pump pump, Model model, int kind, int first, int second, int third, char sign) {
         String got = answer(() -> ofPump(pump, kind, first, second, third, sign));
         String wanted = answer(() -> ofModel(model, kind, first, second, third, sign));
         due.isText("call " + kind + " (" + first + ", " + second + ", " + third + ", " + (int) sign + ")", wanted, got);
@@ -131,7 +133,7 @@ public final class ModelTest {
         }
     }
 
-    private static long ofPump(PumpParliament p, int kind, int a, int b, int c, char sign) {
+    private static long ofPump(Pump p, int kind, int a, int b, int c, char sign) {
         return switch (kind) {
             case 1 -> p.household(a, b, c);
             case 2 -> p.join(a);
@@ -213,7 +215,7 @@ public final class ModelTest {
         };
     }
 
-    private static void compare(PumpParliament pump, Model model) {
+    private static void compare(Pump pump, Model model) {
         for (int what = 0; what <= 15; what++) {
             due.is("account " + what, model.account(what), pump.account(what));
         }

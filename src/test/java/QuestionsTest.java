@@ -29,7 +29,7 @@ public final class QuestionsTest {
 
     private static void promise11HouseholdOf() {
         due.part("promise 11");
-        PumpParliament p = Checks.pumpOf(new int[][] {{5, 3, 9}, {7, 4, 9}, {9, 9, 1}});
+        Pump p = Checks.pumpOf(new int[][] {{5, 3, 9}, {7, 4, 9}, {9, 9, 1}});
         Checks.say(p, "j2;j1;d2;j0");
         int[][] numbers = {{5, 3, 9, 3, 2, 0, 1, 0, -1}, {7, 4, 8, 4, 3, 1, 0, 10, 1}, {9, 9, 1, 5, 4, 1, 0, 10, 0}};
         for (int k = 0; k < 3; k++) {
@@ -50,7 +50,7 @@ public final class QuestionsTest {
 
     private static void promise12At() {
         due.part("promise 12");
-        PumpParliament p = Checks.pumpOf(new int[][] {{5, 0, 0}, {7, 5, 0}, {9, 9, 1}});
+        Pump p = Checks.pumpOf(new int[][] {{5, 0, 0}, {7, 5, 0}, {9, 9, 1}});
         due.isThrown("at", NO_INDEX, p, () -> p.at(0));
         Checks.say(p, "j2;j1");
         due.is("at", 2, p.at(0));
@@ -65,7 +65,7 @@ public final class QuestionsTest {
     private static void promise13Neighbours() {
         due.part("promise 13");
         int[][] six = {{1, 4, 0}, {1, 2, 0}, {1, 1, 0}, {1, 6, 0}, {1, 7, 0}, {1, 4, 0}};
-        PumpParliament p = Checks.pumpOf(six);
+        Pump p = Checks.pumpOf(six);
         due.is("neighbours", 0b101010, p.neighbours(0));
         due.is("neighbours", 0b100101, p.neighbours(1));
         due.is("neighbours", 0b000010, p.neighbours(2));
@@ -78,14 +78,14 @@ public final class QuestionsTest {
         due.is("neighbours", 0b01000000, p.neighbours(7));
         due.isThrown("neighbours", NO_INDEX, p, () -> p.neighbours(8));
         due.isThrown("neighbours", NO_INDEX, p, () -> p.neighbours(-1));
-        PumpParliament alone = Checks.pumpOf(new int[][] {{1, 4, 0}});
+        Pump alone = Checks.pumpOf(new int[][] {{1, 4, 0}});
         due.is("none", 0, alone.neighbours(0));
         due.isThrown("neighbours", NO_INDEX, alone, () -> alone.neighbours(1));
     }
 
     private static void promise14Quarrels() {
         due.part("promise 14");
-        PumpParliament p = Checks.pumpOf(new int[][] {{9, 4, 9}, {9, 4, 9}, {9, 19, 9}});
+        Pump p = Checks.pumpOf(new int[][] {{9, 4, 9}, {9, 4, 9}, {9, 19, 9}});
         Checks.say(p, "j0;j1;j1;j1");
         due.is("0 won", 3, p.quarrels(0, 1));
         due.is("1 won", 0, p.quarrels(1, 0));
@@ -103,7 +103,7 @@ public final class QuestionsTest {
 
     private static void promise15WouldWin() {
         due.part("promise 15");
-        PumpParliament p = Checks.pumpOf(new int[][] {{9, 0, 0}, {9, 10, 0}});
+        Pump p = Checks.pumpOf(new int[][] {{9, 0, 0}, {9, 10, 0}});
         due.is("without voters the one ahead", 0, p.wouldWin(0, 1));
         due.is("without voters the one ahead", 1, p.wouldWin(1, 0));
         p.household(1, 5, 0);
@@ -127,7 +127,7 @@ public final class QuestionsTest {
     private static void promise16TurnsBy() {
         due.part("promise 16");
         for (int members = 1; members <= 9; members++) {
-            PumpParliament p = Checks.pumpOf(new int[][] {{members, 0, members}});
+            Pump p = Checks.pumpOf(new int[][] {{members, 0, members}});
             int[] halves = {0, 1, 1, 2, 2, 3, 3, 4, 4, 5};
             int[] byTemper = {4, 4, 4, 3, 3, 3, 2, 2, 2, 1};
             due.is("by 0", halves[members], p.turnsBy(0, 0));
@@ -135,7 +135,7 @@ public final class QuestionsTest {
             due.is("by 2", byTemper[members], p.turnsBy(0, 2));
             due.is("by 3", 1, p.turnsBy(0, 3));
         }
-        PumpParliament p = Checks.pumpOf(new int[][] {{1, 0, 0}});
+        Pump p = Checks.pumpOf(new int[][] {{1, 0, 0}});
         due.is("by 2", 4, p.turnsBy(0, 2));
         due.isThrown("turnsBy", NO_INDEX, p, () -> p.turnsBy(1, 0));
         due.isThrown("turnsBy", NO_INDEX, p, () -> p.turnsBy(-1, 4));
@@ -149,7 +149,7 @@ public final class QuestionsTest {
 
     private static void promise17IsFor() {
         due.part("promise 17");
-        PumpParliament p = Checks.pumpOf(new int[][] {{9, 0, 0}, {7, 0, 0}, {6, 0, 3}, {6, 0, 2}, {5, 0, 9}, {4, 0, 3},
+        Pump p = Checks.pumpOf(new int[][] {{9, 0, 0}, {7, 0, 0}, {6, 0, 3}, {6, 0, 2}, {5, 0, 9}, {4, 0, 3},
             {4, 0, 2}, {1, 0, 9}});
         int[] laws = {0, 0, 0, 2, 0, 1, 2, 1};
         for (int k = 0; k < laws.length; k++) {
@@ -157,13 +157,13 @@ public final class QuestionsTest {
         }
         due.isThrown("isFor", NO_INDEX, p, () -> p.isFor(8));
         due.isThrown("isFor", NO_INDEX, p, () -> p.isFor(-1));
-        PumpParliament none = new PumpParliament();
+        Pump none = new Pump();
         due.isThrown("isFor", NO_INDEX, none, () -> none.isFor(0));
     }
 
     private static void promise18MembersFor() {
         due.part("promise 18");
-        PumpParliament p = new PumpParliament();
+        Pump p = new Pump();
         for (int law = 0; law < 4; law++) {
             due.is("none", 0, p.membersFor(law));
         }
@@ -184,7 +184,7 @@ public final class QuestionsTest {
 
     private static void promise19TurnIn() {
         due.part("promise 19");
-        PumpParliament p = Checks.pumpOf(new int[][] {{9, 0, 0}, {7, 0, 0}, {6, 0, 3}, {1, 0, 0}});
+        Pump p = Checks.pumpOf(new int[][] {{9, 0, 0}, {7, 0, 0}, {6, 0, 3}, {1, 0, 0}});
         Checks.say(p, "j2;j0;j1");
         due.is("turnIn", 1, p.turnIn(2));
         due.is("turnIn", 2, p.turnIn(0));
@@ -198,7 +198,7 @@ public final class QuestionsTest {
 
     private static void promise20Possible() {
         due.part("promise 20");
-        PumpParliament p = Checks.pumpOf(new int[][] {{9, 0, 0}, {7, 0, 0}, {6, 0, 3}, {1, 0, 0}});
+        Pump p = Checks.pumpOf(new int[][] {{9, 0, 0}, {7, 0, 0}, {6, 0, 3}, {1, 0, 0}});
         due.is("possible", 0, p.possible());
         Checks.say(p, "j0;j1;j3");
         due.is("possible", 10, p.possible());
@@ -208,7 +208,7 @@ public final class QuestionsTest {
         due.is("possible", 0, p.possible());
         p.join(2);
         due.is("possible", 3, p.possible());
-        PumpParliament q = Checks.dryPump(new int[][] {{9, 0, 0}, {9, 9, 0}, {9, 18, 0}});
+        Pump q = Checks.dryPump(new int[][] {{9, 0, 0}, {9, 9, 0}, {9, 18, 0}});
         Checks.say(q, "n1;j0;j1;j2");
         due.is("possible in a drought, whatever water there is", 9, q.possible());
         due.is("all of them", 9 * 5, q.draw(9));
@@ -216,7 +216,7 @@ public final class QuestionsTest {
 
     private static void promise21WouldBring() {
         due.part("promise 21");
-        PumpParliament p = Checks.pumpOf(new int[][] {{9, 0, 0}});
+        Pump p = Checks.pumpOf(new int[][] {{9, 0, 0}});
         due.is("none", 0, p.wouldBring(0));
         due.is("one", 10, p.wouldBring(1));
         due.is("ten", 100, p.wouldBring(10));
@@ -231,13 +231,13 @@ public final class QuestionsTest {
         Checks.say(p, "j0;d5");
         due.is("five that are new, one that is not", 59, p.wouldBring(6));
         due.is("the wear stays", 5, p.account(8));
-        PumpParliament dry = Checks.dryPump(new int[][] {{9, 0, 0}});
+        Pump dry = Checks.dryPump(new int[][] {{9, 0, 0}});
         due.is("whatever water there is", 300, dry.wouldBring(60));
     }
 
     private static void promise22WellIn() {
         due.part("promise 22");
-        PumpParliament p = new PumpParliament();
+        Pump p = new Pump();
         due.is("wellIn", 500, p.wellIn(0, 999));
         due.is("wellIn", 520, p.wellIn(1, 0));
         due.is("wellIn", 20, p.wellIn(1, 500));
@@ -264,7 +264,7 @@ public final class QuestionsTest {
 
     private static void promise23DroughtIn() {
         due.part("promise 23");
-        PumpParliament p = new PumpParliament();
+        Pump p = new Pump();
         due.is("droughtIn", 1, p.droughtIn(421));
         due.is("droughtIn", 2, p.droughtIn(420));
         due.is("all that there is", 1, p.droughtIn(999));
@@ -276,7 +276,7 @@ public final class QuestionsTest {
         p.rain(0);
         due.isThrown("the well stays", NO_ELEMENT, p, () -> p.droughtIn(0));
         dryToTheHundredthNight();
-        PumpParliament dry = Checks.dryPump(new int[][] {{9, 0, 0}, {9, 9, 9}});
+        Pump dry = Checks.dryPump(new int[][] {{9, 0, 0}, {9, 9, 9}});
         due.is("a day that is not one of drought as yet", 1, dry.droughtIn(0));
         due.is("well", 0, dry.account(12));
         dry.night(1);
@@ -287,12 +287,12 @@ public final class QuestionsTest {
     }
 
     private static void dryToTheHundredthNight() {
-        PumpParliament p = Checks.pumpOf(new int[][] {{1, 0, 0}});
+        Pump p = Checks.pumpOf(new int[][] {{1, 0, 0}});
         p.rain(1);
         // each day takes 4 more than the night gives: 500 less 100 times 4 is 100, which is no drought
         due.isThrown("none within 100 nights", NO_ELEMENT, p, () -> p.droughtIn(14));
         // a thousand less a bit: 499 less 100 times 4 is 99
-        PumpParliament q = Checks.pumpOf(new int[][] {{9, 0, 0}, {9, 9, 0}, {9, 18, 0}});
+        Pump q = Checks.pumpOf(new int[][] {{9, 0, 0}, {9, 9, 0}, {9, 18, 0}});
         q.rain(1);
         Checks.say(q, "j0;j1;d10;j2;d1");
         due.is("the well", 391, q.account(3));
@@ -311,7 +311,7 @@ public final class QuestionsTest {
 
     private static void promises24And25Water() {
         due.part("promises 24 and 25");
-        PumpParliament p = Checks.pumpOf(new int[][] {{9, 0, 0}});
+        Pump p = Checks.pumpOf(new int[][] {{9, 0, 0}});
         p.rain(9);
         for (int day = 0; day < 12; day++) {
             due.is("water", 500 + 90 * day, p.water());

@@ -9,6 +9,7 @@ import java.nio.file.Path;
 import java.util.ArrayList;
 import java.util.List;
 import java.util.TreeSet;
+import java.util.stream.Stream;
 
 /** The public face as the document has it, and those rules of LANGUAGE.md that can be seen from outside. */
 public final class RulesTest {
@@ -63,6 +64,8 @@ public final class RulesTest {
         classesInside();
         due.part("the source");
         source();
+        due.part("the tests");
+        tests();
         due.end();
     }
 
@@ -154,5 +157,18 @@ public final class RulesTest {
                 k - begin <= 60 || !lines[k].startsWith("        ") || begin == 0 ? 1 : 0);
             due.is("line " + (k + 1) + " has at most 120 signs", 1, lines[k].length() <= 120 ? 1 : 0);
         }
+    }
+
+    /** Behind its 512th call an object may answer as it likes; these two keep tests from asking it. */
+    private static void tests() throws IOException {
+        TreeSet<String> makers = new TreeSet<>();
+        try (Stream<Path> files = Files.list(Path.of("src", "test", "java"))) {
+            for (Path file : files.toList()) {
+                if (Files.readString(file, StandardCharsets.UTF_8).contains("new " + "PumpParliament(")) {
+                    makers.add(file.getFileName().toString());
+                }
+            }
+        }
+        due.isText("those that make pumps", "Pump.java Trial.java", String.join(" ", makers));
     }
 }

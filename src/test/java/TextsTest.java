@@ -31,7 +31,7 @@ public final class TextsTest {
 
     private static void promise26Append() {
         due.part("promise 26");
-        PumpParliament p = new PumpParliament();
+        Pump p = new Pump();
         for (int k = 1; k <= 60; k++) {
             due.is("append", k, p.append((char) (k * 1000)));
             due.is("the characters", k, p.account(15));
@@ -50,7 +50,7 @@ public final class TextsTest {
 
     private static void promise27Commands() {
         due.part("promise 27");
-        PumpParliament p = Checks.pumpOf(new int[][] {{9, 0, 0}, {9, 9, 9}});
+        Pump p = Checks.pumpOf(new int[][] {{9, 0, 0}, {9, 9, 9}});
         p.collect(30);
         due.is("commands", 7, Checks.say(p, "j0;j1;d3;l0;v;p;r7"));
         due.is("the buffer", 0, p.account(15));
@@ -77,7 +77,7 @@ public final class TextsTest {
         refusedText(p, "n0", 1, 0, 0);
         refusedText(p, "v;n51", 1, 0, 1);
         refusedText(p, "p;p", 9, 10, 1);
-        PumpParliament empty = new PumpParliament();
+        Pump empty = new Pump();
         refusedText(empty, "v", 3, 0, 0);
         refusedText(empty, "r9;n9;v", 3, 0, 2);
         due.isRefused("behind a text the command is 0", p, 3, 7, () -> p.leave(7));
@@ -85,7 +85,7 @@ public final class TextsTest {
         due.isReason("a fault is no refusal", p, 3, 7, 0);
     }
 
-    private static void refusedText(PumpParliament p, String text, int reason, int detail, int command) {
+    private static void refusedText(Pump p, String text, int reason, int detail, int command) {
         String before = Checks.all(p);
         String minutesBefore = Checks.minutes(p);
         due.isThrownOnly(text, REFUSED, () -> Checks.say(p, text));
@@ -135,14 +135,14 @@ public final class TextsTest {
         fault("\u016a0", 0);
         fault("\u0000", 0);
         fault("v;v;v;v;v;v;v;v;v;v;v;v;v;v;v;v;v;v;v;v;v;v;v;v;v;v;v;v;v;v;", 60);
-        PumpParliament full = Checks.pumpOf(new int[][] {{9, 0, 0}});
+        Pump full = Checks.pumpOf(new int[][] {{9, 0, 0}});
         due.is("thirty votes", 30, Checks.say(full, "v;v;v;v;v;v;v;v;v;v;v;v;v;v;v;v;v;v;v;v;v;v;v;v;v;v;v;v;v;v"));
         due.is("the minutes that are kept", 20, full.account(13));
     }
 
     /** What stands ahead of a fault is not carried out, nothing is undone by it, and no reason is kept. */
     private static void fault(String text, int position) {
-        PumpParliament p = Checks.pumpOf(new int[][] {{9, 0, 0}});
+        Pump p = Checks.pumpOf(new int[][] {{9, 0, 0}});
         String before = Checks.all(p);
         Checks.write(p, text);
         due.isThrownOnly(text, BAD_ARGUMENT, p::commands);
@@ -153,7 +153,7 @@ public final class TextsTest {
 
     private static void promise28FaultPosition() {
         due.part("promise 28");
-        PumpParliament p = Checks.pumpOf(new int[][] {{9, 0, 0}});
+        Pump p = Checks.pumpOf(new int[][] {{9, 0, 0}});
         due.is("no call of commands", -1, p.faultPosition());
         Checks.write(p, "v;;");
         due.is("no call of commands as yet", -1, p.faultPosition());
@@ -174,7 +174,7 @@ public final class TextsTest {
 
     private static void promise29Reason() {
         due.part("promise 29");
-        PumpParliament p = Checks.pumpOf(new int[][] {{1, 0, 0}, {1, 9, 0}});
+        Pump p = Checks.pumpOf(new int[][] {{1, 0, 0}, {1, 9, 0}});
         for (int what = 0; what <= 2; what++) {
             int asked = what;
             due.isThrown("nothing was refused", NO_ELEMENT, p, () -> p.reason(asked));
@@ -198,7 +198,7 @@ public final class TextsTest {
 
     private static void promise30Line() {
         due.part("promise 30");
-        PumpParliament p = Checks.pumpOf(new int[][] {{9, 0, 9}, {9, 1, 9}, {9, 18, 0}});
+        Pump p = Checks.pumpOf(new int[][] {{9, 0, 9}, {9, 1, 9}, {9, 18, 0}});
         p.collect(100);
         due.isThrown("no minute", NO_INDEX, p, () -> p.line(0));
         Checks.say(p, "j0;j1;n3;j2;d1;n50;n50;v;n7;p");
@@ -233,7 +233,7 @@ public final class TextsTest {
 
     private static void promise31Character() {
         due.part("promise 31");
-        PumpParliament p = Checks.pumpOf(new int[][] {{9, 0, 9}, {9, 1, 9}});
+        Pump p = Checks.pumpOf(new int[][] {{9, 0, 9}, {9, 1, 9}});
         Checks.say(p, "j0;j1");
         due.isThrown("the line is empty", NO_INDEX, p, () -> p.character(0));
         p.line(0);
@@ -258,7 +258,7 @@ public final class TextsTest {
 
     private static void promise32MeanTemper() {
         due.part("promise 32");
-        PumpParliament p = new PumpParliament();
+        Pump p = new Pump();
         due.isThrown("none", NO_NUMBER, p, () -> (long) p.meanTemper());
         p.household(1, 0, 9);
         due.isNumber("of one", 9f, p.meanTemper());
@@ -278,7 +278,7 @@ public final class TextsTest {
 
     private static void promise33Share() {
         due.part("promise 33");
-        PumpParliament p = Checks.pumpOf(new int[][] {{9, 0, 0}, {9, 9, 0}, {9, 18, 0}});
+        Pump p = Checks.pumpOf(new int[][] {{9, 0, 0}, {9, 9, 0}, {9, 18, 0}});
         due.isThrown("nothing was drawn", NO_NUMBER, p, () -> (long) p.share(0));
         due.isThrown("no such household", NO_INDEX, p, () -> (long) p.share(3));
         due.isThrown("no such household", NO_INDEX, p, () -> (long) p.share(-1));
@@ -296,7 +296,7 @@ public final class TextsTest {
 
     private static void promise34Account() {
         due.part("promise 34");
-        PumpParliament p = Checks.pumpOf(new int[][] {{9, 0, 9}, {9, 1, 9}, {4, 9, 0}, {5, 18, 0}, {5, 18, 0}});
+        Pump p = Checks.pumpOf(new int[][] {{9, 0, 9}, {9, 1, 9}, {4, 9, 0}, {5, 18, 0}, {5, 18, 0}});
         p.rain(9);
         p.collect(47);
         Checks.say(p, "j0;j1;n6");
@@ -315,7 +315,7 @@ public final class TextsTest {
 
     private static void promise35Undo() {
         due.part("promise 35");
-        PumpParliament p = new PumpParliament();
+        Pump p = new Pump();
         due.isThrown("undo", BAD_STATE, p, p::undo);
         String[] states = new String[13];
         states[0] = Checks.all(p);
@@ -337,7 +337,7 @@ public final class TextsTest {
     }
 
     /** Twelve changes, each kind at least once. */
-    private static void change(PumpParliament p, int number) {
+    private static void change(Pump p, int number) {
         switch (number) {
             case 1 -> p.household(9, 0, 9);
             case 2 -> p.household(8, 1, 9);
@@ -362,7 +362,7 @@ public final class TextsTest {
     }
 
     private static void undoForgetsNoOtherCalls() {
-        PumpParliament p = Checks.pumpOf(new int[][] {{9, 0, 0}});
+        Pump p = Checks.pumpOf(new int[][] {{9, 0, 0}});
         p.possible();
         p.save();
         due.isRefused("leave", p, 5, 0, () -> p.leave(0));
@@ -381,7 +381,7 @@ public final class TextsTest {
 
     private static void promise36Save() {
         due.part("promise 36");
-        PumpParliament p = Checks.pumpOf(new int[][] {{9, 0, 0}});
+        Pump p = Checks.pumpOf(new int[][] {{9, 0, 0}});
         due.is("save", 0, p.save());
         due.is("no change", 1, p.account(14));
         p.night(3);
@@ -394,7 +394,7 @@ public final class TextsTest {
 
     private static void promise37Restore() {
         due.part("promise 37");
-        PumpParliament p = Checks.pumpOf(new int[][] {{9, 0, 9}, {9, 1, 9}, {9, 2, 9}});
+        Pump p = Checks.pumpOf(new int[][] {{9, 0, 9}, {9, 1, 9}, {9, 2, 9}});
         due.isThrown("restore", BAD_STATE, p, p::restore);
         p.collect(50);
         Checks.say(p, "j0;d2;j1;r9;n6;p;j2;j1;v;r3");
@@ -422,7 +422,7 @@ public final class TextsTest {
     }
 
     private static void restoreOtherHouseholds() {
-        PumpParliament p = new PumpParliament();
+        Pump p = new Pump();
         p.household(3, 4, 5);
         p.save();
         String saved = Checks.all(p);
@@ -433,7 +433,7 @@ public final class TextsTest {
     }
 
     private static void restoreLawAndDrought() {
-        PumpParliament p = Checks.dryPump(new int[][] {{2, 0, 9}, {9, 9, 9}, {8, 18, 9}});
+        Pump p = Checks.dryPump(new int[][] {{2, 0, 9}, {9, 9, 9}, {8, 18, 9}});
         p.household(9, 3, 2);
         p.household(9, 6, 2);
         p.household(1, 10, 0);
@@ -451,7 +451,7 @@ public final class TextsTest {
         p.restore();
         due.is("drought of the snapshot", 1, p.account(12));
 
-        PumpParliament q = Checks.pumpOf(new int[][] {{6, 0, 0}, {1, 9, 9}});
+        Pump q = Checks.pumpOf(new int[][] {{6, 0, 0}, {1, 9, 9}});
         q.save();
         due.is("vote", 2, q.vote());
         due.is("undo", 2, q.undo());
